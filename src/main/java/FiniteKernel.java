@@ -267,7 +267,7 @@ public final class FiniteKernel {
         int frame = frameAt(address);
         int rights = memory.rightsIn(table, entry);
         memory.clearEntry(table, entry);
-        // Nobody but a waiting process may change its own tables, so the entry is still empty.
+        // No call can change the pages of a process that waits, so its table is there and the entry empty.
         memory.setEntry(processes.awaitedTable(process), processes.awaitedEntry(process), frame, rights);
         memory.setOwner(frame, process);
         processes.setState(process, READY);

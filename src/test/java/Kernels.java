@@ -1,10 +1,15 @@
 import java.lang.reflect.InvocationTargetException;
 import java.lang.reflect.Method;
+import java.lang.reflect.Modifier;
+import java.util.HashMap;
+import java.util.Map;
 
 /** Calls a kernel by a call's name and tells its whole visible state; shared by the tests. */
 final class Kernels {
     static final int PROCESSES = 5;
     static final int PAGES = 20;
+
+    private static final Map<String, Method> CALLS = callsByName();
 
     private Kernels() {
     }
@@ -43,13 +48,21 @@ final class Kernels {
     }
 
     private static Method methodNamed(String name, int parameters) {
-        for (Method method : FiniteKernel.class.getMethods()) {
-            if (method.getName().equals(name) && method.getParameterCount() == parameters
-                    && method.getDeclaringClass() == FiniteKernel.class) {
-                return method;
+        Method method = CALLS.get(name);
+        if (method == null || method.getParameterCount() != parameters) {
+            throw new AssertionError("no call " + name + " with " + parameters + " numbers");
+        }
+        return method;
+    }
+
+    private static Map<String, Method> callsByName() {
+        Map<String, Method> calls = new HashMap<>();
+        for (Method method : FiniteKernel.class.getDeclaredMethods()) {
+            if (Modifier.isPublic(method.getModifiers())) {
+                calls.put(method.getName(), method);
             }
         }
-        throw new AssertionError("no call " + name + " with " + parameters + " numbers");
+        return calls;
     }
 
     private static Object[] boxed(int[] numbers) {

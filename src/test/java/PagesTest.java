@@ -76,6 +76,10 @@ public final class PagesTest {
                 "copy 2 1 ! UnsupportedOperation", "copy 1 2 ! UnsupportedOperation",
                 "copy 0 2 ! UnsupportedOperation", "copy 2 9 ! UnsupportedOperation",
                 "copy 9 2 ! UnsupportedOperation", "copy 3 2 = 1", "read 0 = 1");
+        Script.run("6 copy of four words and no more",
+                "table 0 0 1 3 = 1", "frame 1 0 2 3 = 1", "frame 1 1 3 3 = 1", "frame 1 2 4 3 = 1",
+                "write 3 1 = 0", "write 4 2 = 0", "write 8 3 = 0", "copy 2 3 = 1", "read 3 = 1", "read 4 = 0",
+                "read 7 = 1", "read 8 = 3", "copy 4 2 = 1", "read 0 = 3", "read 4 = 0", "read 7 = 1");
         Script.run("6 copy to and from a child",
                 "spawn 2 5 = 1", "table 5 0 6 3 = 1", "frame 6 0 7 3 = 1",
                 "table 0 0 1 3 = 1", "frame 1 0 2 3 = 1", "write 2 6 = 0", "copy 2 7 = 1", "start 2 = 1",

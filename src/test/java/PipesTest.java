@@ -10,6 +10,7 @@ public final class PipesTest {
         put();
         take();
         order();
+        ofAnotherCaller();
         Script.finish();
     }
 
@@ -82,5 +83,15 @@ public final class PipesTest {
                 "table 0 0 1 3 = 1", "frame 1 0 2 3 = 1", "write 0 10 = 0", "write 1 11 = 0", "write 2 12 = 0",
                 "open 1 0 0 = 1", "open 1 1 1 = 1", "open 1 2 2 = 1", "put 0 0 = 1", "put 1 1 = 1", "put 2 2 = 1",
                 "take 2 3 = 12", "take 1 3 = 11", "take 0 3 = 10");
+    }
+
+    private static void ofAnotherCaller() {
+        Script.run("13, 15 and 16 a descriptor is the caller's, whoever that is",
+                "spawn 2 5 = 1", "table 5 0 6 3 = 1", "frame 6 0 7 3 = 1", "open 1 0 0 = 1", "open 2 0 1 = 1",
+                "open 2 1 2 = 1", "table 0 0 1 3 = 1", "frame 1 0 2 3 = 1", "write 0 3 = 0", "put 0 0 = 1",
+                "put 0 0 = 2", "start 2 = 1", "give 2 = 1", "write 1 4 = 0", "put 0 1 = 1", "take 0 2 = 4",
+                "take 0 2 ! IllegalState", "put 1 1 = 1", "share 1 2 3 = 2", "take 3 0 = 4", "give 1 = 2",
+                "take 0 1 = 3", "put 1 0 ! NoSuchElement", "take 3 0 ! NoSuchElement",
+                "share 1 1 2 ! NoSuchElement");
     }
 }

@@ -76,6 +76,9 @@ public final class ProcessesTest {
                 "spawn 2 5 = 1", "spawn 3 6 = 1", "spawn 4 7 = 1", "start 2 = 1", "start 4 = 1", "table 0 0 1 3 = 1",
                 "expect 4 0 = 4", "kill 4 = 0", "count 0 = 2", "kill 2 ! IllegalState", "count 0 = 2",
                 "process 2 0 = 3");
+        Script.run("10 kill of the caller: one above it comes before one below it",
+                "spawn 2 5 = 1", "spawn 3 6 = 1", "spawn 4 7 = 1", "start 2 = 1", "start 3 = 1", "start 4 = 1",
+                "give 3 = 1", "kill 3 = 0", "count 0 = 4", "kill 4 = 0", "count 0 = 1");
         Script.run("10 kill of the caller: the nearest above comes first",
                 "spawn 2 5 = 1", "spawn 3 6 = 1", "spawn 4 7 = 1", "start 2 = 1", "start 3 = 1", "start 4 = 1",
                 "give 2 = 1", "kill 2 = 0", "count 0 = 3", "kill 3 = 0", "count 0 = 4", "kill 4 = 0", "count 0 = 1");
