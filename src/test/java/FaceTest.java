@@ -2,15 +2,27 @@ import java.lang.reflect.Field;
 import java.lang.reflect.Method;
 import java.lang.reflect.Modifier;
 import java.util.Arrays;
+import java.util.Map;
+import java.util.NoSuchElementException;
 import java.util.Set;
 import java.util.TreeSet;
 
 /** The class shows the document's face and nothing else (rule 1 of LANGUAGE.md). */
 public final class FaceTest {
+    private static final Map<Class<?>, String> SHORT_NAMES = Map.of(
+            IllegalArgumentException.class, "Argument", IllegalStateException.class, "State",
+            UnsupportedOperationException.class, "Unsupported", NoSuchElementException.class, "NoSuch");
+    // Each call with how many ints it takes and what the document lets it throw.
     private static final Set<String> FACE = new TreeSet<>(Arrays.asList(
-            "spawn 2", "table 4", "frame 4", "protect 3", "copy 2", "release 2", "start 1", "give 1", "kill 1",
-            "reap 1", "open 3", "share 3", "close 2", "put 2", "take 2", "read 1", "write 2", "expect 2", "send 2",
-            "process 2", "page 2", "count 1"));
+            "spawn 2 Argument State", "table 4 Argument Unsupported State", "frame 4 Argument Unsupported State",
+            "protect 3 Argument Unsupported NoSuch", "copy 2 Argument Unsupported",
+            "release 2 Argument Unsupported NoSuch State", "start 1 Argument State", "give 1 Argument State",
+            "kill 1 Argument Unsupported State", "reap 1 Argument State", "open 3 Argument Unsupported State",
+            "share 3 Argument Unsupported NoSuch State", "close 2 Argument Unsupported NoSuch",
+            "put 2 Argument NoSuch Unsupported State", "take 2 Argument NoSuch Unsupported State",
+            "read 1 Argument NoSuch Unsupported", "write 2 Argument NoSuch Unsupported",
+            "expect 2 Argument State NoSuch Unsupported", "send 2 Argument State NoSuch", "process 2 Argument",
+            "page 2 Argument", "count 1 Argument"));
 
     private FaceTest() {
     }
@@ -42,9 +54,17 @@ public final class FaceTest {
             }
             check(Modifier.isPublic(modifiers) && !Modifier.isStatic(modifiers) && takesAndAnswersInts(method),
                     method.getName() + " is a call of the face");
-            found.add(method.getName() + " " + method.getParameterCount());
+            found.add(method.getName() + " " + method.getParameterCount() + thrownBy(method));
         }
         check(found.equals(FACE), "the calls are those of the face: " + found);
+    }
+
+    private static String thrownBy(Method method) {
+        StringBuilder text = new StringBuilder();
+        for (Class<?> thrown : method.getExceptionTypes()) {
+            text.append(' ').append(SHORT_NAMES.get(thrown));
+        }
+        return text.toString();
     }
 
     private static boolean takesAndAnswersInts(Method method) {

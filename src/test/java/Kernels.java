@@ -4,10 +4,11 @@ import java.lang.reflect.Modifier;
 import java.util.HashMap;
 import java.util.Map;
 
-/** Calls a kernel by a call's name and tells its whole visible state; shared by the tests. */
+/** Calls a kernel by a call's name; shared by the tests. */
 final class Kernels {
     static final int PROCESSES = 5;
     static final int PAGES = 20;
+    static final int ADDRESSES = 64;
 
     private static final Map<String, Method> CALLS = callsByName();
 
@@ -23,28 +24,6 @@ final class Kernels {
         } catch (IllegalAccessException refused) {
             throw new AssertionError(refused);
         }
-    }
-
-    static String visibleState(FiniteKernel kernel) {
-        StringBuilder text = new StringBuilder();
-        for (int what = 0; what <= 3; what++) {
-            text.append("count ").append(what).append('=').append(kernel.count(what)).append("; ");
-        }
-        for (int process = 1; process <= PROCESSES; process++) {
-            text.append("process ").append(process).append(':');
-            for (int what = 0; what <= 4; what++) {
-                text.append(' ').append(kernel.process(process, what));
-            }
-            text.append("; ");
-        }
-        for (int page = 0; page < PAGES; page++) {
-            text.append("page ").append(page).append(':');
-            for (int what = 0; what <= 2; what++) {
-                text.append(' ').append(kernel.page(page, what));
-            }
-            text.append("; ");
-        }
-        return text.toString();
     }
 
     private static Method methodNamed(String name, int parameters) {

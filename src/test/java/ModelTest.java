@@ -5,10 +5,11 @@ import java.util.Map;
 import java.util.Random;
 import java.util.TreeMap;
 
-/** Long runs of calls on the kernel and on the model: every answer and the whole state are the same. */
+/** Long runs of calls on the kernel and on the model: every answer is the same, and the state told at the end. */
 public final class ModelTest {
-    private static final int RUNS = 1000;
+    private static final int RUNS = 1600;
     private static final int CALLS = 512;
+    private static final int STATE_CALLS = 4 + 5 * 5 + 20 * 3 + 64;
     private static final int SELDOM = 20;
 
     // What each number of a call is: process, page, entry or descriptor, rights, pipe, address, value.
@@ -36,20 +37,23 @@ public final class ModelTest {
         FiniteKernel kernel = new FiniteKernel();
         Model model = new Model();
         List<String> run = new ArrayList<>();
-        for (int i = 0; i < CALLS; i++) {
+        // An object is good for 512 calls: half of the runs use them all, the others ask for the state instead.
+        boolean toTheEnd = seed % 2 == 0;
+        int calls = toTheEnd ? CALLS : 1 + random.nextInt(CALLS - STATE_CALLS);
+        for (int i = 0; i < calls; i++) {
             String[] call = CALLS_BY_KIND[pickWeighted(random)].split(" ");
             int[] numbers = numbersFor(call, model, random);
             String due = model.answer(call[0], numbers);
             String got = Kernels.answer(kernel, call[0], numbers);
             run.add(call[0] + Arrays.toString(numbers) + " " + got);
             note(call[0], due);
-            if (!got.equals(due) || i % 32 == 0 && !sameState(kernel, model)) {
-                Script.wrong("seed " + seed + ": " + run + ", due is " + due + ", or the state differs");
+            if (!got.equals(due)) {
+                Script.wrong("seed " + seed + ": " + run + ", due is " + due);
                 return;
             }
         }
-        if (!sameState(kernel, model)) {
-            Script.wrong("seed " + seed + ": the state differs at the end");
+        if (!toTheEnd && !sameState(kernel, model)) {
+            Script.wrong("seed " + seed + ": " + run + ", and the state differs");
         }
     }
 
@@ -129,7 +133,7 @@ public final class ModelTest {
                 same &= sameAnswer(kernel, model, "page", page, what);
             }
         }
-        for (int address = 0; address < 64; address++) {
+        for (int address = 0; address < Kernels.ADDRESSES; address++) {
             same &= sameAnswer(kernel, model, "read", address);
         }
         return same;

@@ -1,20 +1,33 @@
 import java.util.ArrayList;
+import java.util.HashSet;
 import java.util.List;
+import java.util.Set;
 
 /**
- * Runs of calls written as text, each row on the same kernel: "table 0 0 1 3 = 1", or, for a call
- * that throws, "read 0 ! NoSuchElement". A row that throws must leave the visible state as it was.
+ * Runs of calls written as text, on one new kernel: rows such as "table 0 0 1 3 = 1" or, for a call
+ * that throws, "read 0 ! NoSuchElement", with a semicolon between two of them. A row that throws must
+ * change nothing.
  */
 final class Script {
+    private static final int CALLS = 512;
+    private static final Set<String> TITLES = new HashSet<>();
     private static int wrong = 0;
 
     private Script() {
     }
 
-    static void run(String title, String... rows) {
+    static void run(String title, String... parts) {
+        if (!TITLES.add(title)) {
+            throw new AssertionError("two scripts are called " + title);
+        }
+        String[] rows = String.join(";", parts).split(" *; *");
+        if (rows.length > CALLS) {
+            throw new AssertionError(title + " has too many calls for one object");
+        }
         FiniteKernel kernel = new FiniteKernel();
+        List<Call> answered = new ArrayList<>();
         for (String row : rows) {
-            runRow(title, kernel, row);
+            runRow(title, kernel, answered, row);
         }
     }
 
@@ -30,26 +43,19 @@ final class Script {
         }
     }
 
-    private static void runRow(String title, FiniteKernel kernel, String row) {
+    private static void runRow(String title, FiniteKernel kernel, List<Call> answered, String row) {
         boolean throwing = row.contains("!");
         String[] halves = row.split(throwing ? "!" : "=");
-        String[] words = halves[0].trim().split(" +");
+        Call call = Call.of(halves[0]);
         String due = halves[1].trim() + (throwing ? "Exception" : "");
-        String before = Kernels.visibleState(kernel);
-        String got = Kernels.answer(kernel, words[0], numbers(words));
+        String got = call.on(kernel);
         if (!got.equals(due)) {
             wrong(title + ": " + row + ", but it answered " + got);
         }
-        if (throwing && !before.equals(Kernels.visibleState(kernel))) {
-            wrong(title + ": " + row + " changed the state");
+        if (!throwing) {
+            answered.add(call);
+        } else if (!Unchanged.by(call, answered)) {
+            wrong(title + ": " + row + " changed something");
         }
-    }
-
-    private static int[] numbers(String[] words) {
-        List<Integer> numbers = new ArrayList<>();
-        for (int i = 1; i < words.length; i++) {
-            numbers.add(Integer.valueOf(words[i]));
-        }
-        return numbers.stream().mapToInt(Integer::intValue).toArray();
     }
 }
