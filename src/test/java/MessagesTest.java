@@ -43,11 +43,12 @@ public final class MessagesTest {
                 "expect 1 4 ! IllegalState; expect 2 4 ! IllegalState; expect 4 4 ! IllegalState",
                 "expect 5 4 ! IllegalState; expect 3 4 = 3");
         Script.run("19 expect: the address has no table entry", READY_CHILD,
-                "expect 2 0 ! NoSuchElement; expect 2 63 ! NoSuchElement; table 0 1 1 3 = 1; expect 2 15 ! NoSuchElement",
-                "expect 2 32 ! NoSuchElement; expect 2 16 = 2");
+                "expect 2 0 ! NoSuchElement; expect 2 63 ! NoSuchElement; table 0 1 1 3 = 1",
+                "expect 2 15 ! NoSuchElement; expect 2 32 ! NoSuchElement; expect 2 16 = 2");
         Script.run("19 expect: the frame entry is not empty", READY_CHILD,
                 "table 0 0 1 3 = 1; frame 1 1 2 3 = 1; expect 2 4 ! UnsupportedOperation",
-                "expect 2 5 ! UnsupportedOperation; expect 2 7 ! UnsupportedOperation; release 1 1 = 2; expect 2 4 = 2");
+                "expect 2 5 ! UnsupportedOperation; expect 2 7 ! UnsupportedOperation; release 1 1 = 2",
+                "expect 2 4 = 2");
         Script.run("19 expect: the entries beside it are not empty", READY_CHILD,
                 "table 0 0 1 3 = 1; frame 1 0 2 3 = 1; frame 1 2 3 3 = 1; frame 1 3 4 3 = 1; expect 2 7 = 2");
     }

@@ -91,7 +91,8 @@ public final class PagesTest {
     private static void protectRefused() {
         Script.run("5 protect: page is no ROOT or TABLE: a FREE page", "protect 9 0 3 ! UnsupportedOperation");
         Script.run("5 protect: page is no ROOT or TABLE: a FRAME", FRAME, "protect 2 0 3 ! UnsupportedOperation");
-        Script.run("5 protect: page is no ROOT that is MINE", CHILD, "start 2 = 1; protect 5 0 1 ! UnsupportedOperation");
+        Script.run("5 protect: page is no ROOT that is MINE", CHILD,
+                "start 2 = 1; protect 5 0 1 ! UnsupportedOperation");
         Script.run("5 protect: page is no TABLE that is MINE", CHILD,
                 "start 2 = 1; protect 6 0 1 ! UnsupportedOperation");
         Script.run("5 protect: the entry is empty, in a root", "protect 0 0 3 ! NoSuchElement", FRAME,
@@ -141,7 +142,8 @@ public final class PagesTest {
                 "release 1 1 = 3; page 1 2 = 2; read 0 = 0; read 12 = 6; read 4 ! NoSuchElement");
         Script.run("7 release: a frame with words goes too", FRAME,
                 "write 0 1 = 0; write 1 1 = 0; write 2 1 = 0; write 3 1 = 0; release 1 0 = 2");
-        Script.run("7 release: rights are not asked for", FRAME, "protect 0 0 1 = 3; protect 1 0 1 = 3; release 1 0 = 2");
+        Script.run("7 release: rights are not asked for", FRAME,
+                "protect 0 0 1 = 3; protect 1 0 1 = 3; release 1 0 = 2");
     }
 
     private static void releaseRefused() {
@@ -149,7 +151,8 @@ public final class PagesTest {
         Script.run("7 release: page is no ROOT or TABLE: a FRAME", FRAME, "release 2 0 ! UnsupportedOperation");
         Script.run("7 release: page is no ROOT that is MINE",
                 "spawn 2 5 = 1; table 5 0 6 3 = 1; start 2 = 1; release 5 0 ! UnsupportedOperation");
-        Script.run("7 release: page is no TABLE that is MINE", CHILD, "start 2 = 1; release 6 0 ! UnsupportedOperation");
+        Script.run("7 release: page is no TABLE that is MINE", CHILD,
+                "start 2 = 1; release 6 0 ! UnsupportedOperation");
         Script.run("7 release: the entry is empty, in a root",
                 "release 0 0 ! NoSuchElement; release 0 3 ! NoSuchElement; table 0 0 1 3 = 1; release 0 0 = 1",
                 "release 0 0 ! NoSuchElement");

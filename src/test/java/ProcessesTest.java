@@ -98,7 +98,8 @@ public final class ProcessesTest {
 
     private static void killRefused() {
         Script.run("10 kill: it is process 1, the caller", READY_CHILD, "kill 1 ! UnsupportedOperation");
-        Script.run("10 kill: it is process 1, not the caller", READY_CHILD, "give 2 = 1; kill 1 ! UnsupportedOperation");
+        Script.run("10 kill: it is process 1, not the caller", READY_CHILD,
+                "give 2 = 1; kill 1 ! UnsupportedOperation");
         Script.run("10 kill: it is FREE", "kill 2 ! IllegalState; kill 5 ! IllegalState");
         Script.run("10 kill: it is already a ZOMBIE", "spawn 2 5 = 1; kill 2 = 0; kill 2 ! IllegalState");
         Script.run("10 kill: it is neither: a child of the caller's parent", READY_CHILD,
