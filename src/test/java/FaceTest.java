@@ -37,6 +37,11 @@ public final class FaceTest {
         for (Field field : kernel.getDeclaredFields()) {
             check(Modifier.isPrivate(field.getModifiers()), "the field " + field.getName() + " is private");
         }
+        for (Class<?> inside : kernel.getDeclaredClasses()) {
+            int modifiers = inside.getModifiers();
+            check(Modifier.isStatic(modifiers) && !Modifier.isPublic(modifiers) && !Modifier.isProtected(modifiers),
+                    "the class " + inside.getSimpleName() + " is static, and private or package-visible");
+        }
         Script.finish();
     }
 
